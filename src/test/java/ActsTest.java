@@ -27,6 +27,7 @@ public final class ActsTest {
         whoCannotPay();
         fees();
         feesBeyondTheGreatestDebt();
+        actsBehindAnOutlook();
         CHECK.end();
     }
 
@@ -478,6 +479,19 @@ public final class ActsTest {
         CHECK.due("pass(1) of four", x.pass(1), 4);
         CHECK.due("count(11) of four", x.count(11), sum);
         return x;
+    }
+
+    /** An outlook ahead of an act leaves nothing in it. */
+    private static void actsBehindAnOutlook() {
+        RiddleTrade x = new RiddleTrade();
+        x.ask(0, 9, 1);
+        x.ask(0, 9, 1);
+        x.deliver(1, 0, 1, 50);
+        CHECK.due("ifRounds(5, false)", x.ifRounds(5, false), 1);
+        CHECK.due("withdraw(0) behind it", x.withdraw(0), 1);
+        CHECK.due("count(0)", x.count(0), 0);
+        CHECK.due("count(5)", x.count(5), 0);
+        CHECK.due("trader(0, 1)", x.trader(0, 1), 100);
     }
 
     private static void same(String call, RiddleTrade x, String before) {

@@ -41,7 +41,7 @@ final class Made {
         return x;
     }
 
-    /** Trader 0 has 31 coins, may not owe any, and both drifts are 1 without their signs; one answer a round is taken. */
+    /** Trader 0 has 31 coins and may not owe any, the drifts are 1 and -1; one answer a round is taken, none doubted. */
     static Trade poor() {
         Trade x = new Trade();
         x.set(0, 9);

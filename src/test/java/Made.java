@@ -41,7 +41,7 @@ final class Made {
         return x;
     }
 
-    /** Trader 0 has 31 coins and may not owe any, the drifts are 1 and -1; one answer a round is taken, none doubted. */
+    /** Trader 0 has 31 coins and may not owe any, the drifts are 1 and -1; a round takes one answer, none is doubted. */
     static Trade poor() {
         Trade x = new Trade();
         x.set(0, 9);
